@@ -380,6 +380,12 @@ public final class DarkVats {
         return index >= 0 && index < row.length ? row[index] : 0;
     }
 
+    private static void putAt(int[] row, int index, int value) {
+        if (index >= 0 && index < row.length) {
+            row[index] = value;
+        }
+    }
+
     private static void addTo(int[] row, int index, int amount) {
         if (index >= 0 && index < row.length) {
             row[index] += amount;
@@ -588,10 +594,10 @@ public final class DarkVats {
         }
 
         void ask(int blue, int red, int yellow, int black) {
-            shades[0] = blue;
-            shades[1] = red;
-            shades[2] = yellow;
-            shades[3] = black;
+            putAt(shades, 0, blue);
+            putAt(shades, 1, red);
+            putAt(shades, 2, yellow);
+            putAt(shades, 3, black);
         }
 
         int shadeFor(int dye) {
@@ -665,24 +671,30 @@ public final class DarkVats {
 
         private void copyVats(Vat[] others) {
             for (int i = 0; i < vats.length && i < others.length; i++) {
-                if (vats[i] != null && others[i] != null) {
-                    vats[i].copyFrom(others[i]);
+                Vat from = others[i];
+                Vat to = vats[i];
+                if (from != null && to != null) {
+                    to.copyFrom(from);
                 }
             }
         }
 
         private void copyLots(Lot[] others) {
             for (int i = 0; i < lots.length && i < others.length; i++) {
-                if (lots[i] != null && others[i] != null) {
-                    lots[i].copyFrom(others[i]);
+                Lot from = others[i];
+                Lot to = lots[i];
+                if (from != null && to != null) {
+                    to.copyFrom(from);
                 }
             }
         }
 
         private void copyOrders(Order[] others) {
             for (int i = 0; i < orders.length && i < others.length; i++) {
-                if (orders[i] != null && others[i] != null) {
-                    orders[i].copyFrom(others[i]);
+                Order from = others[i];
+                Order to = orders[i];
+                if (from != null && to != null) {
+                    to.copyFrom(from);
                 }
             }
         }
@@ -783,9 +795,8 @@ public final class DarkVats {
             }
             int rinsed = sumOf(lot.loose);
             for (int dye = 0; dye < DYES; dye++) {
-                int grains = cellAt(lot.loose, dye);
-                addTo(waste, dye, grains);
-                addTo(lot.loose, dye, -grains);
+                addTo(waste, dye, cellAt(lot.loose, dye));
+                putAt(lot.loose, dye, 0);
             }
             return rinsed;
         }
@@ -1064,12 +1075,13 @@ public final class DarkVats {
             return answer;
         }
 
+        // The oldest state moves up to the end, where the next one is noted in its place.
         private void dropOldest() {
-            House oldest = states[0];
             for (int i = 1; i < states.length; i++) {
+                House oldest = states[i - 1];
                 states[i - 1] = states[i];
+                states[i] = oldest;
             }
-            states[states.length - 1] = oldest;
             size--;
         }
 
@@ -1230,12 +1242,6 @@ public final class DarkVats {
             return dips >= 0 && dips < dipped.length ? dipped[dips] : null;
         }
 
-        private void choose(int dip, int vat) {
-            if (dip >= 0 && dip < path.length) {
-                path[dip] = vat;
-            }
-        }
-
         /** How many dips the best plan has, -1 if there is none; the vats are given back unchanged. */
         int findPlan(House house, Lot lot, Order order) {
             Lot undipped = lotBehind(0);
@@ -1269,7 +1275,7 @@ public final class DarkVats {
                 int dirt = vat.dirt;
                 next.copyFrom(lot);
                 next.soakIn(vat, house.settings);
-                planner.choose(depth, i);
+                putAt(planner.path, depth, i);
                 boolean reached = isReached(planner, house, order, depth + 1, dips);
                 vat.grains = grains;
                 vat.dirt = dirt;

@@ -6,6 +6,7 @@ public final class AccountsTest {
         set();
         undo();
         changes();
+        restores();
         Calls.end();
     }
 
@@ -98,5 +99,26 @@ public final class AccountsTest {
             "account(0, 0) = 0", "count(0) = 1", "type(100) = 1", "fault(0) = 0", "clearText() = 1",
             "count(10) = 3", "dip(0, 0) = -2", "take(0) = -2", "sell(0, 0) = -2", "hang(0, 1) = -2",
             "count(10) = 3", "type(100) = 1", "play() = -2", "count(10) = 3");
+    }
+
+    /** The undo of each kind of change leads to the state right ahead of it. */
+    private static void restores() {
+        String[] changes = {"vat(1, 10) = 1", "weigh(0, 1) = 501", "lot(1, 100) = 3", "drain(0) = 500",
+            "dip(0, 0) = 178", "rinse(0) = 50", "hang(0, 0) = 2", "take(2) = 0", "order(1, 2, 3, 4) = 1",
+            "sell(2, 0) = 100", "set(0, 99) = 36", "play() = 1"};
+        for (String change : changes) {
+            Calls stage = Calls.of("26: back from " + change, "vat(0, 10) = 0", "weigh(0, 1000) = 1000",
+                "lot(0, 200) = 0", "lot(0, 100) = 1", "lot(0, 100) = 2", "order(0, 0, 0, 0) = 0",
+                "hang(2, 0) = 1", "dip(0, 0) = 500", "text d1,0;");
+            for (int bath = 31; bath <= 36; bath++) {
+                stage.then("set(0, " + bath + ") = " + (bath == 31 ? 20 : bath - 1));
+            }
+            stage.then(change, "count(10) = 4", "undo() = 3", "count(20) = 36", "vatOf(0, 2) = 500",
+                "vatOf(0, 3) = 1", "lotOf(0, 9) = 1", "lotOf(0, 4) = 50", "lotOf(1, 9) = 0", "lotOf(0, 5) = 0",
+                "lotOf(2, 5) = 1", "count(0) = 1", "count(1) = 3", "count(3) = 1", "count(6) = 0",
+                "count(7) = 1", "count(8) = 1", "count(9) = 1", "count(11) = 5", "account(0, 0) = 1000",
+                "account(0, 5) = 0", "undo() = 2", "count(20) = 35", "undo() = 1", "undo() = 0",
+                "count(20) = 33", "undo() = -2");
+        }
     }
 }

@@ -54,6 +54,13 @@ public final class LibraryTest {
     private static void nested(Class<?> type) throws IOException {
         namesOf(type);
         for (Class<?> inner : type.getDeclaredClasses()) {
+            Calls.check(inner + " is static", inner.getModifiers() & Modifier.STATIC, Modifier.STATIC);
+            for (Method method : inner.getDeclaredMethods()) {
+                for (String name : FACE) {
+                    boolean same = name.startsWith(method.getName() + " ");
+                    Calls.check(inner + " has its own names: " + method.getName(), same ? 1 : 0, 0);
+                }
+            }
             nested(inner);
         }
     }

@@ -39,6 +39,9 @@ public final class LotsTest {
             "lotOf(0, 4) = 314", "lotOf(0, 3) = 638", "set(1, 0) = 50", "dip(0, 0) = 45", "vatOf(0, 3) = 11",
             "set(5, 0) = 33", "dip(0, 0) = 2", "lotOf(0, 4) = 328", "set(1, 5) = 0", "dip(0, 0) = 0",
             "vatOf(0, 3) = 13", "vatOf(0, 2) = 1", "count(9) = 4", "lotOf(0, 9) = 4");
+        Calls.of("8: dirt is rounded up", "vat(1, 10) = 0", "weigh(0, 1000) = 1000", "lot(0, 1001) = 0",
+            "lot(1, 1000) = 1", "set(1, 2) = 5", "dip(0, 0) = 833", "vatOf(0, 3) = 3", "dip(1, 0) = 151",
+            "vatOf(0, 3) = 5", "set(1, 1) = 2", "dip(0, 0) = 13", "vatOf(0, 3) = 7");
         Calls.of("8: errors", "vat(0, 10) = 0", "lot(0, 200) = 0", "dip(0, 0) = -2", "dip(1, 0) = -1",
             "dip(-1, 0) = -1", "dip(0, 1) = -1", "dip(0, -1) = -1", "weigh(0, 1000) = 1000", "hang(0, 0) = 1",
             "dip(0, 0) = -2", "dip(0, 1) = -1", "count(10) = 4", "take(0) = 0", "dip(0, 0) = 500",

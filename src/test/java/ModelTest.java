@@ -17,6 +17,7 @@ public final class ModelTest {
     private int run;
     private int call;
     private int palette;
+    private int heavy = 40;
 
     public static void main(String[] args) {
         for (Method method : DarkVats.class.getDeclaredMethods()) {
@@ -49,6 +50,7 @@ public final class ModelTest {
     private void go(int number) {
         run = number;
         palette = below(4);
+        heavy = below(8) == 0 ? 2 : 40;
         int eager = below(3);
         for (int i = 0; i < (eager == 0 ? 0 : 3); i++) {
             ask("vat", anyDye(), litres());
@@ -72,7 +74,7 @@ public final class ModelTest {
     }
 
     private int grains() {
-        return rarely() ? from(-1, 2) : rarely() ? from(99990, 100001) : palette == 3 ? from(1, 100) : from(1, 9000);
+        return rarely() ? from(-1, 2) : below(heavy) == 0 ? from(99990, 100001) : palette == 3 ? from(1, 100) : from(1, 9000);
     }
 
     private int weight() {
@@ -102,7 +104,8 @@ public final class ModelTest {
         else if (kind < 49) sellSome();
         else if (kind < 52) setSome();
         else if (kind < 55) ask("undo");
-        else if (kind < 61) writeSome();
+        else if (kind < 57) writeSome();
+        else if (kind < 61) planSome();
         else if (kind < 63) ask("play");
         else if (kind < 66) ask("fault", from(-1, 3));
         else lookAround();
@@ -204,22 +207,38 @@ public final class ModelTest {
             case 6: ask("orderOf", one(7), from(-1, 7)); break;
             case 7: ask("match", one(1), one(1)); break;
             case 8: ask("alike", from(-1, 4)); break;
-            case 9: planSome(); break;
+            case 9: ask("plan", one(1), one(7), from(-2, 4)); break;
             case 10: ask("takes", one(1), one(0), from(0, 31)); break;
             case 11: ask("account", from(-1, 4), from(-1, 6)); break;
             default: ask("count", from(-1, 27)); break;
         }
     }
 
-    // A plan that is sought among six vats takes the model long: some of the runs are enough.
+    /** Dips a lot some times, takes it back, and asks for the plan of an order of what it became. */
     private void planSome() {
-        if (held(0) > 3 && below(6) > 0) {
-            return;
+        if (held(0) > 4 && below(6) > 0) {
+            return; // Plans among many vats take the model long.
         }
         int lot = one(1);
-        int order = one(7);
-        ask("plan", lot, order, -1);
-        ask("plan", lot, order, from(-2, 4));
+        int dips = from(0, 4);
+        int done = 0;
+        for (int i = 0; i < dips; i++) {
+            int held = held(9);
+            ask("dip", lot, one(0));
+            done += held(9) - held;
+        }
+        int[] shades = new int[4];
+        for (int dye = 0; dye < 4; dye++) {
+            shades[dye] = nearShade(lot, dye);
+        }
+        for (int i = 0; i < done; i++) {
+            ask("undo");
+        }
+        ask("order", shades);
+        int order = held(7) - 1;
+        for (int index = -1; index < 5; index++) {
+            ask("plan", lot, order, index);
+        }
     }
 
     private void ask(String name, int... arguments) {

@@ -96,6 +96,8 @@ public final class OrdersTest {
             "set(4, 75) = 74", "alike(0) = 2", "set(4, 225) = 75", "alike(0) = 3", "alike(1) = 3",
             "order(0, 0, 0, 0) = 0", "hang(2, 0) = 1", "alike(0) = 3", "sell(2, 0) = 200", "alike(0) = 2",
             "count(10) = 4");
+        Calls.of("20: without sold ones", "lot(0, 100) = 0", "lot(0, 100) = 1", "lot(0, 100) = 2",
+            "order(0, 0, 0, 0) = 0", "hang(1, 0) = 1", "alike(3) = 3", "sell(1, 0) = 100", "alike(3) = 2");
         Calls.of("20: not a chain", "vat(0, 10) = 0", "weigh(0, 200) = 200", "lot(0, 200) = 0",
             "lot(0, 200) = 1", "lot(0, 200) = 2", "dip(1, 0) = 100", "weigh(0, 100) = 200", "dip(2, 0) = 100",
             "dip(2, 0) = 50", "dip(2, 0) = 25", "dip(2, 0) = 12", "dip(2, 0) = 6", "shade(2, 0) = 965",
@@ -140,6 +142,11 @@ public final class OrdersTest {
             "lotOf(0, 6) = 1", "order(1000, 0, 0, 4000) = 0", "order(1000, 0, 0, 0) = 1",
             "plan(0, 0, -1) = 1", "plan(0, 0, 0) = 0", "plan(0, 1, -1) = -4", "set(6, 4001) = 2000",
             "plan(0, 0, -1) = -4", "lotOf(0, 6) = 1");
+        Calls.of("21: a vat of one grain, and a dry one", "vat(3, 10) = 0", "weigh(0, 1600) = 1600",
+            "lot(0, 200) = 0", "dip(0, 0) = 800", "drain(0) = 800", "vat(0, 10) = 1", "weigh(1, 200) = 200",
+            "set(3, 100) = 8000", "dip(0, 1) = 100", "lotOf(0, 6) = 1", "order(500, 0, 0, 4000) = 0",
+            "plan(0, 0, -1) = -4", "weigh(0, 1) = 1", "plan(0, 0, -1) = 1", "plan(0, 0, 0) = 0",
+            "dip(0, 0) = 0", "lotOf(0, 6) = 0", "lotOf(0, 7) = 1", "plan(0, 0, -1) = 0");
         Calls.of("21: dirt of the dips of a plan", "vat(0, 10) = 0", "weigh(0, 3200) = 3200",
             "lot(0, 200) = 0", "set(1, 50) = 5", "set(2, 10) = 200", "set(4, 0) = 150",
             "order(12000, 0, 0, 0) = 0", "set(3, 20000) = 8000", "plan(0, 0, -1) = 2",

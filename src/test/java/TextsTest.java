@@ -103,6 +103,7 @@ public final class TextsTest {
         fails(stage, "d0,0;h0,0;s0,0;", 10, -2);
         fails(stage, "h0,0;t0;t0;", 8, -2);
         fails(stage, "r2;x", 0, -1);
+        stage.then("text d0,;", "fault(1) = 1", "text r0;", "fault(1) = -4");
         stage.then("text r0;d0", "fault(0) = 3", "fault(1) = 1", "fault(2) = -4", "text h0,0;t0;d0,0;h0,0;",
             "fault(0) = -4", "play() = 4");
     }
@@ -121,6 +122,12 @@ public final class TextsTest {
             "count(11) = 16", "play() = 4", "count(10) = 4");
         stage().then("text d0,0;d0,0;d1,0;x", "play() = -2", "vatOf(0, 2) = 1000", "lotOf(0, 9) = 0",
             "count(9) = 0", "undo() = 3", "count(7) = 0");
+        Calls twelve = Calls.of("30: numbers of two digits", "order(0, 0, 0, 0) = 0");
+        for (int i = 0; i < 20; i++) {
+            twelve.then("lot(" + i % 2 + ", " + (100 + i) + ") = " + i);
+        }
+        twelve.then("text h12,0;h1,1;h19,01;t12;s19,00;", "play() = 5", "lotOf(12, 5) = 0", "lotOf(1, 5) = 1",
+            "lotOf(19, 8) = 0", "text h20,0;", "fault(2) = -1", "text h10,0;", "play() = 1", "lotOf(10, 5) = 1");
         stage().then("text h1,1;s1,0;h0,0;t0;", "play() = 4", "lotOf(1, 8) = 0", "orderOf(0, 4) = 1",
             "count(6) = 1", "count(3) = 0");
     }
