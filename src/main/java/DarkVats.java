@@ -455,7 +455,7 @@ public final class DarkVats {
         }
 
         int valueOf(int what) {
-            return cellAt(values, what);
+            return what >= 0 && what < values.length ? values[what] : 0;
         }
 
         void copyFrom(Settings other) {
@@ -535,7 +535,7 @@ public final class DarkVats {
         }
 
         int grainsOf(int dye) {
-            return cellAt(fixed, dye) + cellAt(loose, dye);
+            return dye >= 0 && dye < fixed.length && dye < loose.length ? fixed[dye] + loose[dye] : 0;
         }
 
         int shadeOf(int dye) {
@@ -567,20 +567,15 @@ public final class DarkVats {
             dips++;
             vat.grains -= taken;
             vat.dirt += (weight * settings.valueOf(Settings.DIRT_OF_KILOGRAM) + 999) / 1000;
-            suffer(dirty, vat.dye, settings);
-            return taken;
-        }
-
-        /** What a dip into a vat of this dye, dirty or not, makes of its being spoiled and dark. */
-        private void suffer(boolean dirty, int dye, Settings settings) {
             if (!dark && (dirty || depth() > settings.valueOf(Settings.GREATEST_DEPTH))) {
                 spoiled = true;
             }
-            if (spoiled && dye == BLACK_DYE
+            if (spoiled && vat.dye == BLACK_DYE
                     && shadeOf(BLACK_DYE) >= settings.valueOf(Settings.BLACK_THAT_SAVES)) {
                 spoiled = false;
                 dark = true;
             }
+            return taken;
         }
     }
 
