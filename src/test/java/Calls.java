@@ -1,12 +1,31 @@
 import java.lang.reflect.Method;
+import java.util.HashMap;
+import java.util.Map;
 
-/** Calls on one new object, written as rows such as "vat(0, 50) = 0". */
+/**
+ * Calls on one new object, written as rows such as "vat(0, 50) = 0". The model answers each row
+ * too, so that a row that was written wrongly is found.
+ */
 final class Calls {
+    /** What later calls of an object answer is free. */
+    static final int MOST_CALLS = 512;
+
+    private static final Map<String, Method> METHODS = new HashMap<>();
     private static int checked = 0;
     private static int wrong = 0;
 
+    static {
+        for (Method method : DarkVats.class.getMethods()) {
+            if (method.getDeclaringClass() == DarkVats.class) {
+                METHODS.put(method.getName() + method.getParameterCount(), method);
+            }
+        }
+    }
+
     private final String title;
     private final DarkVats object = new DarkVats();
+    private final Model model = new Model();
+    private int called = 0;
 
     Calls(String title) {
         this.title = title;
@@ -23,47 +42,57 @@ final class Calls {
             if (row.startsWith("text ")) {
                 write(row.substring(5));
             } else {
-                checkRow(row);
+                int equals = row.indexOf('=');
+                String call = row.substring(0, equals).trim();
+                compare(call, Integer.parseInt(row.substring(equals + 1).trim()));
             }
         }
         return this;
     }
 
-    private void write(String signs) {
-        object.clearText();
-        for (int i = 0; i < signs.length(); i++) {
-            compare("type('" + signs.charAt(i) + "')", object.type(signs.charAt(i)), i + 1);
+    /** What a call such as "vat(0, 50)" answers. */
+    int answer(String call) {
+        int[] arguments = argumentsOf(call);
+        Object[] boxed = new Object[arguments.length];
+        for (int i = 0; i < arguments.length; i++) {
+            boxed[i] = arguments[i];
         }
-    }
-
-    private void checkRow(String row) {
-        int open = row.indexOf('(');
-        int close = row.indexOf(')');
-        int equals = row.indexOf('=', close);
-        String name = row.substring(0, open).trim();
-        String inner = row.substring(open + 1, close).trim();
-        String[] parts = inner.isEmpty() ? new String[0] : inner.split(",");
-        Object[] arguments = new Object[parts.length];
-        Class<?>[] kinds = new Class<?>[parts.length];
-        for (int i = 0; i < parts.length; i++) {
-            arguments[i] = Integer.valueOf(parts[i].trim());
-            kinds[i] = int.class;
+        called++;
+        if (called > MOST_CALLS) {
+            throw new IllegalStateException(title + ": more than " + MOST_CALLS + " calls");
         }
-        int due = Integer.parseInt(row.substring(equals + 1).trim());
-        compare(row.substring(0, close + 1), call(name, kinds, arguments), due);
-    }
-
-    private int call(String name, Class<?>[] kinds, Object[] arguments) {
         try {
-            Method method = DarkVats.class.getMethod(name, kinds);
-            return (Integer) method.invoke(object, arguments);
+            return (Integer) METHODS.get(nameOf(call) + arguments.length).invoke(object, boxed);
         } catch (ReflectiveOperationException e) {
-            throw new IllegalStateException(title + ": " + name, e);
+            throw new IllegalStateException(title + ": " + call, e);
         }
     }
 
-    private void compare(String call, int got, int due) {
-        check(title + ": " + call, got, due);
+    private void write(String signs) {
+        answer("clearText()");
+        model.answer("clearText", new int[0]);
+        for (int i = 0; i < signs.length(); i++) {
+            compare("type(" + (int) signs.charAt(i) + ")", i + 1);
+        }
+    }
+
+    private void compare(String call, int due) {
+        check(title + ": " + call, answer(call), due);
+        check(title + ": the model's " + call, model.answer(nameOf(call), argumentsOf(call)), due);
+    }
+
+    private static String nameOf(String call) {
+        return call.substring(0, call.indexOf('(')).trim();
+    }
+
+    private static int[] argumentsOf(String call) {
+        String inner = call.substring(call.indexOf('(') + 1, call.lastIndexOf(')')).trim();
+        String[] parts = inner.isEmpty() ? new String[0] : inner.split(",");
+        int[] arguments = new int[parts.length];
+        for (int i = 0; i < parts.length; i++) {
+            arguments[i] = Integer.parseInt(parts[i].trim());
+        }
+        return arguments;
     }
 
     static void check(String what, long got, long due) {

@@ -5,20 +5,56 @@ import java.lang.reflect.Constructor;
 import java.lang.reflect.Field;
 import java.lang.reflect.Method;
 import java.lang.reflect.Modifier;
+import java.util.ArrayList;
 import java.util.Arrays;
+import java.util.List;
+import java.util.Map;
 import java.util.TreeSet;
 
-/** The face of the class, word for word, and the library that its compiled classes name. */
+/** The face of the class, word for word, and the library that its compiled classes name, by ../shared/LANGUAGE.md. */
 public final class LibraryTest {
     private static final String[] FACE = {"vat 2", "weigh 2", "drain 1", "vatOf 2", "vatAt 1", "lot 2", "dip 2",
         "rinse 1", "hang 2", "take 1", "lotOf 2", "shade 2", "shadeBits 2", "meanBits 1", "order 4", "sell 2",
         "orderOf 2", "match 2", "alike 1", "plan 3", "takes 3", "account 2", "count 1", "set 2", "undo 0", "type 1",
         "clearText 0", "fault 1", "play 0"};
 
+    private static final Map<String, String> LIBRARY = Map.ofEntries(
+        Map.entry("java/lang/Object", "<init>"), Map.entry("java/lang/Record", "<init>"),
+        Map.entry("java/lang/Enum", "<init> ordinal"),
+        Map.entry("java/lang/String", "<init> length charAt isEmpty equals indexOf substring toCharArray"),
+        Map.entry("java/lang/StringBuilder",
+            "<init> append charAt setCharAt setLength deleteCharAt reverse length toString"),
+        Map.entry("java/util/ArrayList", "<init> add get set remove size isEmpty clear iterator"),
+        Map.entry("java/util/List", "add get set remove size isEmpty clear iterator of"),
+        Map.entry("java/util/Iterator", "hasNext next"), Map.entry("java/lang/Iterable", "iterator"),
+        Map.entry("java/lang/Comparable", "compareTo"), Map.entry("java/lang/Integer", "*"),
+        Map.entry("java/lang/Long", "*"), Map.entry("java/lang/Math", "*"),
+        Map.entry("java/lang/System", "arraycopy"), Map.entry("java/util/Arrays", "copyOf copyOfRange fill"));
+
+    private static final TreeSet<String> EXCEPTIONS = new TreeSet<>(List.of("java/lang/IllegalStateException",
+        "java/lang/IllegalArgumentException", "java/lang/IndexOutOfBoundsException", "java/lang/ArithmeticException",
+        "java/lang/UnsupportedOperationException", "java/util/NoSuchElementException", "java/lang/RuntimeException"));
+
     public static void main(String[] args) throws IOException, IllegalAccessException {
         members();
-        nested(DarkVats.class);
+        List<Class<?>> classes = new ArrayList<>();
+        gather(DarkVats.class, classes);
+        Calls.check("some twelve classes: " + classes.size(), classes.size() <= 14 ? 1 : 0, 1);
+        for (Class<?> type : classes) {
+            namesOf(type);
+            fieldsOf(type);
+            methodsOf(type);
+        }
         Calls.end();
+    }
+
+    private static void gather(Class<?> type, List<Class<?>> classes) {
+        classes.add(type);
+        for (Class<?> inner : type.getDeclaredClasses()) {
+            int shown = inner.getModifiers() & (Modifier.PUBLIC | Modifier.PROTECTED);
+            Calls.check(inner + " is private or package-visible", shown, 0);
+            gather(inner, classes);
+        }
     }
 
     private static void members() throws IllegalAccessException {
@@ -37,7 +73,7 @@ public final class LibraryTest {
         Calls.check("methods " + methods, methods.equals(new TreeSet<>(Arrays.asList(FACE))) ? 1 : 0, 1);
         TreeSet<String> fields = new TreeSet<>();
         for (Field field : DarkVats.class.getDeclaredFields()) {
-            if (!Modifier.isPrivate(field.getModifiers())) {
+            if (!field.isSynthetic() && !Modifier.isPrivate(field.getModifiers())) {
                 fields.add(Modifier.toString(field.getModifiers()) + " " + field.getName() + " " + field.get(null));
             }
         }
@@ -51,18 +87,43 @@ public final class LibraryTest {
         Calls.check("no package", DarkVats.class.getPackageName().length(), 0);
     }
 
-    private static void nested(Class<?> type) throws IOException {
-        namesOf(type);
-        for (Class<?> inner : type.getDeclaredClasses()) {
-            Calls.check(inner + " is static", inner.getModifiers() & Modifier.STATIC, Modifier.STATIC);
-            for (Method method : inner.getDeclaredMethods()) {
-                for (String name : FACE) {
-                    boolean same = name.startsWith(method.getName() + " ");
-                    Calls.check(inner + " has its own names: " + method.getName(), same ? 1 : 0, 0);
-                }
+    /** Static fields are final (rule 5), and a class has some twenty fields beside its constants (rule 11). */
+    private static void fieldsOf(Class<?> type) {
+        int own = 0;
+        for (Field field : type.getDeclaredFields()) {
+            if (Modifier.isStatic(field.getModifiers())) {
+                Calls.check(field + " is final", field.getModifiers() & Modifier.FINAL, Modifier.FINAL);
+            } else {
+                own++;
             }
-            nested(inner);
         }
+        Calls.check("some twenty fields: " + type + " has " + own, own <= 22 ? 1 : 0, 1);
+    }
+
+    /** At most seven parameters (rule 11), nothing synchronized (6), and no private bearer of a public name (1). */
+    private static void methodsOf(Class<?> type) {
+        for (Method method : type.getDeclaredMethods()) {
+            if (method.isSynthetic()) {
+                continue;
+            }
+            Calls.check(method + " has at most seven parameters", method.getParameterCount() <= 7 ? 1 : 0, 1);
+            Calls.check(method + " is plain", method.getModifiers() & (Modifier.SYNCHRONIZED | Modifier.NATIVE), 0);
+            for (String name : FACE) {
+                boolean same = name.startsWith(method.getName() + " ") && Modifier.isPrivate(method.getModifiers());
+                Calls.check(method + " bears no public name", same ? 1 : 0, 0);
+            }
+        }
+    }
+
+    private static boolean isKnown(String owner, String name) {
+        if (owner.startsWith("DarkVats") || owner.startsWith("[") && name.equals("clone")) {
+            return true;
+        }
+        if (EXCEPTIONS.contains(owner)) {
+            return name.equals("<init>");
+        }
+        String names = LIBRARY.getOrDefault(owner, "");
+        return names.equals("*") ? !name.endsWith("Exact") : Arrays.asList(names.split(" ")).contains(name);
     }
 
     /** Reads the constant pool of a class file: its references to methods and fields of the library. */
@@ -91,9 +152,7 @@ public final class LibraryTest {
                 if (tags[i] >= 9 && tags[i] <= 11) {
                     String owner = texts[pairs[pairs[i][0]][0]];
                     String name = texts[pairs[pairs[i][1]][0]];
-                    boolean known = owner.startsWith("DarkVats") || owner.equals("java/lang/Object")
-                        && name.equals("<init>") || owner.startsWith("[") && name.equals("clone");
-                    Calls.check(type.getName() + " uses " + owner + "." + name, known ? 1 : 0, 1);
+                    Calls.check(type.getName() + " uses " + owner + "." + name, isKnown(owner, name) ? 1 : 0, 1);
                 }
             }
         }
